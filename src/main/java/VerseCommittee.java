@@ -17,6 +17,8 @@ public final class VerseCommittee {
     private static final int SIGNS = 40;
     private static final int ADDED = 8;
     private static final int NOT_SO = -2;
+    private static final int HELD = 1;
+    private static final int FAR = 2147483647;
 
     private static final int PROPOSED = 0;
     private static final int PASSED = 1;
@@ -226,7 +228,7 @@ public final class VerseCommittee {
         if ((votersOf(x) & (1 << s)) == 0) {
             return false;
         }
-        x.record(s, yes);
+        x.putVote(s, yes);
         return true;
     }
 
@@ -311,11 +313,16 @@ public final class VerseCommittee {
     }
 
     public int cost(int choice) {
-        return choices.priceOf(choice, today);
+        if (!choices.readRow(choice)) {
+            return NONE;
+        }
+        choices.reckon(today);
+        return choices.priceOfRow();
     }
 
     public int one() {
-        return choices.best(today);
+        choices.reckon(today);
+        return choices.leastPriced();
     }
 
     public int line(int i) {
@@ -590,11 +597,13 @@ public final class VerseCommittee {
         }
 
         void respell(int edition, int w, int[] text, int n) {
-            put(w * FORMS + 1 + edition, text, n);
+            if (has(w) && isEdition(edition)) {
+                put(w * FORMS + 1 + edition, text, n);
+            }
         }
 
         int sizeIn(int edition, int w) {
-            return has(w) ? sizes[formIn(edition, w)] : 0;
+            return has(w) && isEdition(edition) ? sizes[formIn(edition, w)] : 0;
         }
 
         int letterIn(int edition, int w, int i) {
@@ -632,10 +641,10 @@ public final class VerseCommittee {
         }
 
         private void put(int form, int[] text, int n) {
-            for (int i = 0; i < n; i++) {
+            for (int i = 0; i < n && i < MOST_LETTERS; i++) {
                 letters[form * MOST_LETTERS + i] = (byte) text[i];
             }
-            sizes[form] = (byte) n;
+            sizes[form] = (byte) Math.min(n, MOST_LETTERS);
         }
 
         private boolean isThere(int[] text, int n) {
@@ -699,6 +708,9 @@ public final class VerseCommittee {
 
         // A new row each time: RENDERINGS go on with the row on which they rest.
         void putRow(int v, int c, int[] text, int n) {
+            if (!has(v) || !isCopy(c) || n < 0 || n > text.length) {
+                return;
+            }
             int[] row = new int[n];
             for (int i = 0; i < n; i++) {
                 row[i] = text[i];
@@ -715,6 +727,9 @@ public final class VerseCommittee {
         }
 
         void recordReader(int k, int v, int token, boolean right) {
+            if (!has(v) || token < 0 || token >= MOST_TOKENS) {
+                return;
+            }
             int place = v * MOST_TOKENS + token;
             told[place] |= 1 << k;
             if (right) {
@@ -726,7 +741,7 @@ public final class VerseCommittee {
 
         int missedBits(int v) {
             int bits = 0;
-            for (int token = 0; token < MOST_TOKENS; token++) {
+            for (int token = 0; has(v) && token < MOST_TOKENS; token++) {
                 int place = v * MOST_TOKENS + token;
                 int against = Integer.bitCount(wrong[place]);
                 if (against >= 2 && 2 * against > Integer.bitCount(told[place])) {
@@ -778,7 +793,7 @@ public final class VerseCommittee {
         }
 
         int enterScholar(int c, boolean centre) {
-            if (scholars >= MOST_SCHOLARS) {
+            if (scholars >= MOST_SCHOLARS || !hasCompany(c)) {
                 return NONE;
             }
             int bit = 1 << scholars;
@@ -837,8 +852,7 @@ public final class VerseCommittee {
         private static final int CLAUSES = 16;
         private static final int ALL_FORMS = 4;
 
-        private final byte[] texts = new byte[MOST * TEXT_BYTES];
-        private final int[] sizes = new int[MOST];
+        private final int[][] texts = new int[MOST][];
         private final int[] companies = new int[MOST];
         private final int[] firstDays = new int[MOST];
         private final int[] lastDays = new int[MOST];
@@ -907,13 +921,14 @@ public final class VerseCommittee {
         }
 
         int enact(int[] text, int n, int clauseCount) {
-            if (isFull() || n > TEXT_BYTES) {
+            if (isFull() || n < 0 || n > text.length) {
                 return NONE;
             }
+            int[] own = new int[n];
             for (int i = 0; i < n; i++) {
-                texts[size * TEXT_BYTES + i] = (byte) text[i];
+                own[i] = text[i];
             }
-            sizes[size] = n;
+            texts[size] = own;
             clauses[size] = clauseCount;
             size++;
             return size - 1;
@@ -926,9 +941,9 @@ public final class VerseCommittee {
             return companies[i] == NONE || companies[i] == company;
         }
 
-        int signAt(int i, int place) {
-            boolean there = i >= 0 && i < size && place >= 0 && place < sizes[i];
-            return there ? texts[i * TEXT_BYTES + place] : NONE;
+        int[] textOf(int i) {
+            int[] text = i >= 0 && i < size ? texts[i] : null;
+            return text == null ? NOTHING : text;
         }
 
         private static boolean isNumber(int clause) {
@@ -1030,8 +1045,8 @@ public final class VerseCommittee {
             return true;
         }
 
-        private boolean isBetween(int least, int most) {
-            return sign() >= least && sign() <= most;
+        private static boolean isBetween(int sign, int least, int most) {
+            return sign >= least && sign <= most;
         }
 
         private boolean readClause(int j) {
@@ -1065,7 +1080,7 @@ public final class VerseCommittee {
             if (subject == NONE || !pass('.')) {
                 return false;
             }
-            if (sign() != '*' && !isBetween('0', '3')) {
+            if (sign() != '*' && !isBetween(sign(), '0', '3')) {
                 return fail(STRANGE, at);
             }
             int form = sign() == '*' ? Laws.ALL_FORMS : sign() - '0';
@@ -1091,7 +1106,7 @@ public final class VerseCommittee {
             int seen = 0;
             int ranks = 0;
             for (int k = 0; k < 3; k++) {
-                if (!isBetween('0', '2')) {
+                if (!isBetween(sign(), '0', '2')) {
                     return fail(STRANGE, at);
                 }
                 int copy = sign() - '0';
@@ -1107,7 +1122,7 @@ public final class VerseCommittee {
         }
 
         private boolean readHundredths(int j) {
-            if (!isBetween('0', '1')) {
+            if (!isBetween(sign(), '0', '1')) {
                 return fail(STRANGE, at);
             }
             int stage = sign() - '0';
@@ -1129,14 +1144,14 @@ public final class VerseCommittee {
         private int readNumber(int most) {
             int first = at;
             int value = 0;
-            for (int k = 0; k < DIGITS && isBetween('0', '9'); k++) {
+            for (int k = 0; k < DIGITS && isBetween(sign(), '0', '9'); k++) {
                 value = value * 10 + sign() - '0';
                 at++;
             }
             boolean good = true;
             if (at == first) {
                 good = fail(STRANGE, at);
-            } else if (isBetween('0', '9')) {
+            } else if (isBetween(sign(), '0', '9')) {
                 good = fail(SIXTH_DIGIT, at);
             } else if (value > most) {
                 good = fail(NO_SUCH_NUMBER, first);
@@ -1216,7 +1231,7 @@ public final class VerseCommittee {
             if (sign() == '[') {
                 return readOpening(open) && readSum(open + 1) && pass(']');
             }
-            if (isBetween('0', '9')) {
+            if (isBetween(sign(), '0', '9')) {
                 return readNumber(ANY_NUMBER) != NONE;
             }
             switch (sign()) {
@@ -1236,7 +1251,6 @@ public final class VerseCommittee {
 
     /** What RULES ask of the VERSE and the DAY at which it is aimed. */
     private static final class Reckoner {
-        private static final int HOLDS = 1;
         private static final int REFUSED = 2;
         private static final int HALF = 50;
         private static final int MOST_OPEN = 6;
@@ -1250,7 +1264,9 @@ public final class VerseCommittee {
         private int force;
         private int copy;
         private int tokens;
-        private int rulesRead;
+        private int book;
+        private int measure;
+        private int[] text = NOTHING;
         private int at;
         private boolean refused;
 
@@ -1263,7 +1279,9 @@ public final class VerseCommittee {
         void aim(int v, int onDay) {
             verse = v;
             day = onDay;
-            company = people.companyOf(verses.bookOf(v));
+            book = verses.bookOf(v);
+            measure = verses.measureOf(v);
+            company = people.companyOf(book);
             force = 0;
             for (int i = 0; i < laws.size(); i++) {
                 if (laws.binds(i, company, day)) {
@@ -1299,23 +1317,19 @@ public final class VerseCommittee {
             return clause == NONE ? 0 : laws.value(clause);
         }
 
-        boolean isHeld(int clause) {
-            return verdict(clause) == HOLDS;
-        }
-
         int verdict(int clause) {
             int start = laws.start(clause);
             if (start == NONE) {
-                return HOLDS;
+                return HELD;
             }
-            rulesRead = Laws.rulesOf(clause);
+            text = laws.textOf(Laws.rulesOf(clause));
             at = start;
             refused = false;
             boolean holds = reckonCondition(true, 1);
             if (refused) {
                 return REFUSED;
             }
-            return holds ? HOLDS : 0;
+            return holds ? HELD : 0;
         }
 
         private void findCopy() {
@@ -1348,13 +1362,7 @@ public final class VerseCommittee {
         }
 
         private int sign() {
-            return laws.signAt(rulesRead, at);
-        }
-
-        private int passSign() {
-            int sign = sign();
-            at++;
-            return sign;
+            return at >= 0 && at < text.length ? text[at] : NONE;
         }
 
         // What does not matter any more is gone through, too, but not asked: it can't be REFUSED.
@@ -1393,7 +1401,8 @@ public final class VerseCommittee {
                 return holds;
             }
             int left = reckonSum(asked, open);
-            int comparison = passSign();
+            int comparison = sign();
+            at++;
             int right = reckonSum(asked, open);
             if (comparison == '<') {
                 return left < right;
@@ -1404,7 +1413,8 @@ public final class VerseCommittee {
         private int reckonSum(boolean asked, int open) {
             int value = reckonTerm(asked, open);
             for (int k = 0; k < TEXT_BYTES && (sign() == '+' || sign() == '-'); k++) {
-                boolean more = passSign() == '+';
+                boolean more = sign() == '+';
+                at++;
                 int term = reckonTerm(asked, open);
                 value = more ? value + term : value - term;
             }
@@ -1414,7 +1424,8 @@ public final class VerseCommittee {
         private int reckonTerm(boolean asked, int open) {
             int value = reckonFactor(asked, open);
             for (int k = 0; k < TEXT_BYTES && isTermSign(sign()); k++) {
-                int operation = passSign();
+                int operation = sign();
+                at++;
                 int factor = reckonFactor(asked, open);
                 if (operation == '*') {
                     value *= factor;
@@ -1442,17 +1453,23 @@ public final class VerseCommittee {
                 at++;
                 return value;
             }
-            return isDigit(sign()) ? readNumber() : letterValue(passSign());
+            if (isDigit(sign())) {
+                return numberThere();
+            }
+            int letter = sign();
+            at++;
+            return letterValue(letter);
         }
 
         private static boolean isDigit(int sign) {
             return sign >= '0' && sign <= '9';
         }
 
-        private int readNumber() {
+        private int numberThere() {
             int value = 0;
             for (int k = 0; k < TEXT_BYTES && isDigit(sign()); k++) {
-                value = value * 10 + passSign() - '0';
+                value = value * 10 + sign() - '0';
+                at++;
             }
             return value;
         }
@@ -1462,9 +1479,9 @@ public final class VerseCommittee {
                 case 'v':
                     return verse;
                 case 'b':
-                    return verses.bookOf(verse);
+                    return book;
                 case 'm':
-                    return verses.measureOf(verse);
+                    return measure;
                 case 'n':
                     return tokens;
                 case 'c':
@@ -1501,6 +1518,9 @@ public final class VerseCommittee {
         }
 
         void fill(int[] text, int n) {
+            if (n < 0 || 2 * n > text.length) {
+                return;
+            }
             words = new int[n];
             turns = new int[n];
             for (int i = 0; i < n; i++) {
@@ -1549,7 +1569,7 @@ public final class VerseCommittee {
             return state == PROPOSED ? 0 : 1;
         }
 
-        void record(int s, boolean forIt) {
+        void putVote(int s, boolean forIt) {
             int stage = stage();
             cast[stage] |= 1 << s;
             if (forIt) {
@@ -1918,7 +1938,7 @@ public final class VerseCommittee {
                 for (int j = 0; j < laws.clausesOf(i); j++) {
                     int clause = Laws.clauseOf(i, j);
                     if (laws.isOf(clause, 'w') && laws.speaksOfAny(clause, tokens)
-                            && reckoner.isHeld(clause) && heldSize < MOST_CLAUSES) {
+                            && reckoner.verdict(clause) == HELD && heldSize < MOST_CLAUSES) {
                         held[heldSize] = clause;
                         heldSize++;
                     }
@@ -1928,7 +1948,13 @@ public final class VerseCommittee {
 
         boolean seekUnlike(int today, int wanted) {
             seen = 0;
-            gatherPlaces(today);
+            places = 0;
+            for (int v = 0; v < verses.size(); v++) {
+                Rendering x = shelf.fixedAt(v);
+                if (x != null && markAlike(v, today)) {
+                    addPlaces(v, x.tokenRow());
+                }
+            }
             for (int a = 0; a < places; a++) {
                 for (int b = a + 1; b < places; b++) {
                     if (placeSigns[a] != placeSigns[b] || !isUnlike(a, b)) {
@@ -1970,20 +1996,12 @@ public final class VerseCommittee {
             return false;
         }
 
-        private void gatherPlaces(int today) {
-            places = 0;
-            for (int v = 0; v < verses.size(); v++) {
-                Rendering x = shelf.fixedAt(v);
-                if (x == null || !markAlike(v, today)) {
-                    continue;
-                }
-                int[] tokens = x.tokenRow();
-                for (int p = 0; p + 1 < tokens.length && places < MOST_PLACES; p++) {
-                    placeVerse[places] = v;
-                    placeToken[places] = p;
-                    placeSigns[places] = tokens[p] * 256 + tokens[p + 1];
-                    places++;
-                }
+        private void addPlaces(int v, int[] tokens) {
+            for (int p = 0; p + 1 < tokens.length && places < MOST_PLACES; p++) {
+                placeVerse[places] = v;
+                placeToken[places] = p;
+                placeSigns[places] = tokens[p] * 256 + tokens[p + 1];
+                places++;
             }
         }
 
@@ -2000,7 +2018,7 @@ public final class VerseCommittee {
                 }
                 for (int j = 0; j < laws.clausesOf(i); j++) {
                     int clause = Laws.clauseOf(i, j);
-                    if (laws.isOf(clause, 's') && reckoner.isHeld(clause)) {
+                    if (laws.isOf(clause, 's') && reckoner.verdict(clause) == HELD) {
                         alike[v * LONGS + clause / 64] |= 1L << (clause % 64);
                         any = true;
                     }
@@ -2068,11 +2086,7 @@ public final class VerseCommittee {
             return true;
         }
 
-        int priceOf(int choice, int today) {
-            if (!readRow(choice)) {
-                return NONE;
-            }
-            reckon(today);
+        int priceOfRow() {
             int price = 0;
             for (int k = 0; k < size; k++) {
                 if (!mayStand(k)) {
@@ -2083,9 +2097,8 @@ public final class VerseCommittee {
             return price;
         }
 
-        int best(int today) {
-            reckon(today);
-            bestPrice = Integer.MAX_VALUE;
+        int leastPriced() {
+            bestPrice = FAR;
             bestChoice = NONE;
             choose(0, 0);
             return bestChoice;
@@ -2113,7 +2126,7 @@ public final class VerseCommittee {
             return (parted[a] & (1L << b)) != 0;
         }
 
-        private boolean readRow(int choice) {
+        boolean readRow(int choice) {
             if (choice < 0) {
                 return false;
             }
@@ -2171,7 +2184,7 @@ public final class VerseCommittee {
             }
         }
 
-        private void reckon(int today) {
+        void reckon(int today) {
             for (int o = 0; o < prices.length; o++) {
                 prices[o] = 0;
                 barred[o] = false;
@@ -2213,7 +2226,7 @@ public final class VerseCommittee {
                 for (int j = 0; j < laws.clausesOf(i); j++) {
                     int clause = Laws.clauseOf(i, j);
                     int k = laws.isOf(clause, 'w') ? placeOf(laws.subject(clause)) : NONE;
-                    if (k != NONE && laws.speaksOfAny(clause, tokens) && reckoner.isHeld(clause)) {
+                    if (k != NONE && laws.speaksOfAny(clause, tokens) && reckoner.verdict(clause) == HELD) {
                         barOthers(k, laws.value(clause));
                     }
                 }
@@ -2253,12 +2266,12 @@ public final class VerseCommittee {
 
         int answer(int i) {
             gatherBooks();
-            bestDays = Integer.MAX_VALUE;
+            bestDays = FAR;
             int centreDays = daysOfCentre();
             if (centreDays != NONE) {
                 give(0, centreDays);
             }
-            if (bestDays == Integer.MAX_VALUE) {
+            if (bestDays == FAR) {
                 return NONE;
             }
             if (i == NONE) {
