@@ -2177,10 +2177,14 @@ public final class VerseCommittee {
                 return;
             }
             for (int j = 0; j < sizes[k]; j++) {
-                row[k] = j;
-                if (mayStand(k)) {
-                    choose(k + 1, price + prices[k * MOST_OPTIONS + j]);
-                }
+                chooseOption(k, j, price);
+            }
+        }
+
+        private void chooseOption(int k, int j, int price) {
+            row[k] = j;
+            if (mayStand(k)) {
+                choose(k + 1, price + prices[k * MOST_OPTIONS + j]);
             }
         }
 
@@ -2349,15 +2353,18 @@ public final class VerseCommittee {
                 }
                 return;
             }
-            int load = open[books[k]];
             for (int c = 0; c < people.companies(); c++) {
                 if (mayHave(c, books[k])) {
-                    row[k] = c;
-                    loads[c] += load;
-                    give(k + 1, Math.max(days, through(loads[c], people.rateOf(c))));
-                    loads[c] -= load;
+                    giveTo(k, c, days);
                 }
             }
+        }
+
+        private void giveTo(int k, int c, int days) {
+            row[k] = c;
+            loads[c] += open[books[k]];
+            give(k + 1, Math.max(days, through(loads[c], people.rateOf(c))));
+            loads[c] -= open[books[k]];
         }
     }
 }

@@ -246,6 +246,7 @@ public final class PromisesTest {
         due(x.count(7), 0);
         due(word("abcdefghijklm"), NONE);
         due(x.count(7), 20);
+        due(word("abcdefghijkl"), NONE);
         due(word("a"), 1);
         due(word("a"), NONE);
         due(x.count(7), 20);
@@ -423,10 +424,7 @@ public final class PromisesTest {
     }
 
     private int ask(String condition, int v, int day) {
-        VerseCommittee kept = x;
-        int i = law("s(" + condition + ")");
-        due(kept == x && i >= 0, true);
-        return x.holds(i, 0, v, day);
+        return x.holds(law("s(" + condition + ")"), 0, v, day);
     }
 
     private void holds() {
@@ -454,6 +452,12 @@ public final class PromisesTest {
         x.verse(0, 7);
         x.verse(1, 9);
         due(ask("v=1|v=0&m=6", 0, 0), 0);
+        due(ask("v=0|v=0&1/v=1", 0, 0), 1);
+        due(ask("!!!!!v=1", 0, 0), 1);
+        due(ask("((((([v]=0)))))", 0, 0), NONE);
+        due(ask("(((([v]=0&v<1))))&m=7", 0, 0), 1);
+        due(ask("(((((v=0|v=1)&v<1))))&m=7", 0, 0), 1);
+        due(ask("[[[[[v+7]]]]-1]*2=12", 0, 0), 1);
         due(ask("(v=1|v=0)&m=7", 0, 0), 1);
         due(ask("!v=1&m=7", 0, 0), 1);
         due(ask("!(v=1&m=7)", 0, 0), 1);
@@ -589,17 +593,22 @@ public final class PromisesTest {
         due(x.render(0, 0, 13), NONE);
         due(x.count(7), 40);
         due(x.render(0, 0, 12), 1);
+        lay(new int[20]);
+        due(x.render(0, 0, 11), NONE);
+        due(x.render(0, 0, 12), NONE);
+        due(x.count(7), 20);
+        due(x.render(0, 0, 10), 2);
         due(x.look(1, 5), 12);
         due(x.look(1, 42), 1);
         due(x.look(1, 41), 8);
         source(0, 0, 0, 0, 0, 0, 0, 0, 0, 0);
-        due(render(0, 0, 0, 7), 2);
-        due(x.look(2, 4), 0);
+        due(render(0, 0, 0, 7), 3);
+        due(x.look(3, 4), 0);
         due(x.look(0, 4), 1);
         x.scholar(0, false);
         x.voids(1);
         due(render(1, 0, 0, 0), NONE);
-        for (int r = 3; r < 200; r++) {
+        for (int r = 4; r < 200; r++) {
             lay(0, 0);
             due(x.render(0, 0, 1), r);
         }
@@ -981,6 +990,60 @@ public final class PromisesTest {
         x.now(2);
         fix(0, 1, 1, 0, 0, 1, 3, 0, 2, 2, 8);
         due(x.count(10), 2);
+        unlikeByOneClause();
+        unlikeOfAll();
+    }
+
+    /** Both verses need one clause that holds for both; what held on another day does not count. */
+    private void unlikeByOneClause() {
+        x = new VerseCommittee();
+        words("in", "god");
+        x.company(255, 1);
+        x.scholar(0, true);
+        law("s(d=1);v0.0;v1.0");
+        for (int v = 0; v < 2; v++) {
+            x.verse(v, 0);
+            source(v, 0, 4, 8);
+            fix(v, v, 0, 0, 1);
+        }
+        law("s(v=0);s(v=1);w1.0=1");
+        due(x.count(10), 0);
+        x.now(1);
+        due(x.count(10), 1);
+        x.now(2);
+        due(x.count(10), 0);
+        for (int i = 2; i < 19; i++) {
+            law(NONE, 0, 0, "s");
+        }
+        law("s(v=0);s(v=1);o0;o0;o0;o0;o0;o0;o0;o0;o0;o0;o0;o0;s(v=9);s(d=3)");
+        due(x.count(10), 0);
+        x.now(3);
+        due(x.count(10), 1);
+    }
+
+    /** As many places as there can be: 60 verses of eight like tokens. */
+    private void unlikeOfAll() {
+        x = new VerseCommittee();
+        words("in", "god");
+        x.company(255, 1);
+        x.scholar(0, true);
+        law("v0.0;v1.0;s");
+        for (int v = 0; v < 60; v++) {
+            x.verse(v % 8, 0);
+            source(v, 2, 4, 4, 4, 4, 4, 4, 4, 4);
+            fix(v, v % 2, 0, v % 2, 1, v % 2, 2, v % 2, 3, v % 2, 4, v % 2, 5, v % 2, 6, v % 2, 7);
+        }
+        due(x.count(9), 60);
+        due(x.count(10), 210 * 210);
+        due(x.unlike(210 * 210 - 1, 0), 58);
+        due(x.unlike(210 * 210 - 1, 1), 6);
+        due(x.unlike(210 * 210 - 1, 2), 59);
+        due(x.unlike(210 * 210 - 1, 3), 6);
+        due(x.token(59, 2, 7), 4);
+        due(x.fixed(59), 59);
+        due(x.reads(9, 59, 7, false) && x.reads(8, 59, 7, false), true);
+        due(x.missed(59), 128);
+        due(x.missed(58), 0);
     }
 
     private void option() {
@@ -1134,6 +1197,10 @@ public final class PromisesTest {
         due(x.reads(0, -1, 0, true), false);
         due(x.reads(0, 0, 8, true), false);
         due(x.reads(0, 0, -1, true), false);
+        due(x.reads(9, 0, 0, false), true);
+        due(x.reads(8, 0, 0, false), true);
+        due(x.missed(0), 1);
+        x.reads(8, 0, 0, true);
         due(x.reads(9, 0, 7, false), true);
         due(x.reads(0, 0, 7, false), true);
         due(x.missed(0), 128);
