@@ -2230,7 +2230,8 @@ public final class VerseCommittee {
                 for (int j = 0; j < laws.clausesOf(i); j++) {
                     int clause = Laws.clauseOf(i, j);
                     int k = laws.isOf(clause, 'w') ? placeOf(laws.subject(clause)) : NONE;
-                    if (k != NONE && laws.speaksOfAny(clause, tokens) && reckoner.verdict(clause) == HELD) {
+                    if (k != NONE && laws.speaksOfAny(clause, tokens)
+                            && reckoner.verdict(clause) == HELD) {
                         barOthers(k, laws.value(clause));
                     }
                 }

@@ -373,6 +373,9 @@ public final class PromisesTest {
         }
         b.insert(2, "!").append(")");
         due(b.length(), 160);
+        lay(new int[180]);
+        due(x.rules(NONE, 0, 0, 161), NONE);
+        due(x.count(7), 180);
         due(law(b.toString()), 1);
         for (int i = 2; i < 20; i++) {
             due(law(i % 3 - 1, 3999, 3999, "s"), i);
