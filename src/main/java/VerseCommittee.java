@@ -252,7 +252,7 @@ public final class VerseCommittee {
         if (fixes) {
             shelf.fix(r, x, today);
         } else {
-            x.enterState(on ? PASSED : DROPPED, today);
+            x.enterState(on ? PASSED : DROPPED);
         }
         return x.stateNumber();
     }
@@ -1500,8 +1500,8 @@ public final class VerseCommittee {
         private final int[] tokens;
         private int[] words = NOTHING;
         private int[] turns = NOTHING;
+        private final int madeDay;
         private int state = PROPOSED;
-        private int since;
         private int fixedDay = NONE;
         private final int[] cast = new int[2];
         private final int[] yes = new int[2];
@@ -1514,7 +1514,7 @@ public final class VerseCommittee {
             this.verse = verse;
             this.copy = copy;
             this.tokens = tokens;
-            since = day;
+            madeDay = day;
         }
 
         void fill(int[] text, int n) {
@@ -1591,12 +1591,13 @@ public final class VerseCommittee {
             keptNeed[stage] = needed;
         }
 
-        void enterState(int next, int today) {
+        void enterState(int next) {
             state = next;
-            since = today;
-            if (next == FIXED) {
-                fixedDay = today;
-            }
+        }
+
+        void becomeFixed(int day) {
+            state = FIXED;
+            fixedDay = day;
         }
 
         /** Takes out the votes of a SCHOLAR; the STATE to which this has to go back, or NONE. */
@@ -1610,8 +1611,8 @@ public final class VerseCommittee {
             return state == FIXED && !standsWithout(1, 1 << s) ? PASSED : NONE;
         }
 
-        void goBack(int earlier, int today) {
-            enterState(earlier, today);
+        void goBack(int earlier) {
+            state = earlier;
             fixedDay = NONE;
             keptYes[1] = NONE;
             if (earlier == PROPOSED) {
@@ -1687,7 +1688,7 @@ public final class VerseCommittee {
                 case 2:
                     return state;
                 case 3:
-                    return since;
+                    return madeDay;
                 case 4:
                     return copy;
                 case 5:
@@ -1796,9 +1797,9 @@ public final class VerseCommittee {
         void fix(int r, Rendering x, int today) {
             Rendering old = fixedAt(x.verseNumber());
             if (old != null) {
-                old.enterState(REPLACED, today);
+                old.enterState(REPLACED);
             }
-            x.enterState(FIXED, today);
+            x.becomeFixed(today);
             setFixed(x.verseNumber(), r, today);
         }
 
@@ -1813,7 +1814,7 @@ public final class VerseCommittee {
                 if (x.stateNumber() == FIXED) {
                     setFixed(x.verseNumber(), NONE, today);
                 }
-                x.goBack(earlier, today);
+                x.goBack(earlier);
                 back++;
             }
             return back;

@@ -65,7 +65,11 @@ public final class PromisesTest {
             case 36 -> plan();
             case 37 -> judge();
             case 38 -> check();
-            case 39 -> look();
+            case 39 -> {
+                look();
+                x = new VerseCommittee();
+                lookDayInEveryState();
+            }
             default -> count();
         }
     }
@@ -684,7 +688,7 @@ public final class PromisesTest {
         due(x.close(0), NONE);
         x.now(1);
         due(x.close(1), 1);
-        due(x.look(1, 3), 1);
+        due(x.look(1, 3), 0);
         due(x.close(1), NONE);
         x.scholar(0, true);
         x.scholar(0, true);
@@ -707,7 +711,7 @@ public final class PromisesTest {
         x.now(4);
         due(x.close(2), 2);
         due(x.look(1, 2), 4);
-        due(x.look(1, 3), 4);
+        due(x.look(1, 3), 0);
         due(x.look(1, 9), 1);
         due(x.look(2, 9), 4);
         due(x.fixed(0), 2);
@@ -756,7 +760,7 @@ public final class PromisesTest {
         due(x.voids(2), 1);
         due(x.voids(2), NONE);
         due(x.look(0, 2), 1);
-        due(x.look(0, 3), 1);
+        due(x.look(0, 3), 0);
         due(x.look(0, 7), 2);
         due(x.look(0, 8), NONE);
         due(x.look(0, 9), NONE);
@@ -1420,19 +1424,67 @@ public final class PromisesTest {
         x.vote(1, 0, true);
         x.close(0);
         due(x.look(0, 2), 1);
-        due(x.look(0, 3), 3);
+        due(x.look(0, 3), 2);
         due(x.look(0, 7), 1);
         x.now(4);
         x.close(0);
         due(x.look(0, 2), 2);
-        due(x.look(0, 3), 4);
+        due(x.look(0, 3), 2);
         due(x.look(0, 8), 0);
         due(x.look(0, 9), 4);
         x.now(6);
         fix(1, 0, 0);
         due(x.look(0, 2), 4);
-        due(x.look(0, 3), 6);
+        due(x.look(0, 3), 2);
         due(x.look(0, 9), 4);
+    }
+
+    private void lookDayInEveryState() {
+        words("in");
+        x.company(1, 1);
+        x.verse(0, 0);
+        source(0, 0, 4);
+        x.scholar(0, false);
+        x.scholar(0, true);
+        x.now(5);
+        for (int r = 0; r < 3; r++) {
+            render(0, 0, 0, 0);
+        }
+        x.now(6);
+        render(0, 0, 0, 0);
+        // 0 goes through all the states and back, 1 is dropped, 2 replaces 0, 3 is another day's
+        x.vote(0, 0, true);
+        due(x.close(0), 1);
+        due(x.look(0, 3), 5);
+        x.now(7);
+        x.vote(1, 0, true);
+        due(x.close(0), 2);
+        due(x.look(0, 3), 5);
+        due(x.look(0, 9), 7);
+        due(x.close(1), 3);
+        due(x.look(1, 3), 5);
+        x.now(8);
+        x.vote(1, 2, true);
+        due(x.close(2), 1);
+        x.vote(1, 2, true);
+        due(x.close(2), 2);
+        due(x.look(0, 2), 4);
+        due(x.look(0, 3), 5);
+        due(x.look(0, 9), 7);
+        due(x.look(2, 9), 8);
+        x.vote(0, 3, true);
+        due(x.close(3), 1);
+        x.now(9);
+        due(x.voids(1), 1);
+        due(x.look(2, 2), 0);
+        due(x.look(2, 3), 5);
+        due(x.look(2, 9), NONE);
+        x.now(10);
+        due(x.voids(0), 1);
+        due(x.look(3, 2), 0);
+        due(x.look(3, 3), 6);
+        due(x.look(3, 9), NONE);
+        due(x.look(4, 3), NONE);
     }
 
     private void count() {

@@ -688,7 +688,7 @@ public final class RandomRunsTest {
         int[] tokens;
         List<int[]> slots = new ArrayList<>();
         int state;
-        int since;
+        int madeDay;
         int fixedDay = NONE;
         Ballot[] ballots = {new Ballot(), new Ballot()};
 
@@ -1187,7 +1187,7 @@ public final class RandomRunsTest {
             m.verse = v;
             m.copy = sourceCopy(v, day);
             m.tokens = sourceRow(v, day).clone();
-            m.since = day;
+            m.madeDay = day;
             for (int i = 0; i < n; i++) {
                 int w = tape.get(2 * i);
                 int t = tape.get(2 * i + 1);
@@ -1241,11 +1241,9 @@ public final class RandomRunsTest {
                     return NONE;
                 }
                 old.state = 4;
-                old.since = day;
             }
             m.ballots[m.state] = b;
             m.state = b.carries() ? m.state + 1 : 3;
-            m.since = day;
             if (m.state == 2) {
                 v.fixed = r;
                 m.fixedDay = day;
@@ -1291,7 +1289,6 @@ public final class RandomRunsTest {
                     verses.get(m.verse).fixed = NONE;
                 }
                 m.state = next;
-                m.since = day;
                 m.fixedDay = NONE;
                 reopen(m.ballots[1]);
                 if (next == 0) {
@@ -1684,7 +1681,7 @@ public final class RandomRunsTest {
                 case 0 -> m.scholar;
                 case 1 -> m.verse;
                 case 2 -> m.state;
-                case 3 -> m.since;
+                case 3 -> m.madeDay;
                 case 4 -> m.copy;
                 case 5 -> m.slots.size();
                 case 6 -> left;
