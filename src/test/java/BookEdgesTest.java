@@ -699,6 +699,11 @@ public final class BookEdgesTest extends Sentences {
             respell(e, 0, "godogodo");
         }
         due(syllables(0), 1);
+        newWord("abababababab");
+        for (int e = 0; e < 4; e++) {
+            respell(e, 1, "o");
+        }
+        due(syllables(1), 6);
     }
 
     @Promise(of = 8, says = "NONE: no such one")

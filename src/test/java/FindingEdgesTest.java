@@ -159,6 +159,28 @@ public final class FindingEdgesTest extends Sentences {
         }
     }
 
+    @Promise(of = 23, says = "RULES in FORCE: the 16th CLAUSE of others that stand beside them does not count")
+    void breachesNotOfTheRulesBeside() {
+        for (String clause : new String[] {"w1.0=2", "s"}) {
+            fresh();
+            office();
+            option(1, 0);
+            for (int v = 0; v < 2; v++) {
+                verse(0, 0);
+                tokens(v, 0, 4, 8);
+                fix(v, v, 0);
+            }
+            String text = times(15, "s(v=9);") + clause;
+            law(NONE, 5, 5, text);
+            law("s(v=9);w1.0=0(v=9)");
+            law(NONE, 5, 5, text);
+            due(breaches(0), 0);
+            due(quarrel(0, 0, 0), NONE);
+            due(count(10), 0);
+            due(cost(0), 1);
+        }
+    }
+
     @Promise(of = 24, says = "as many as there can be: 20 RULES of 16 CLAUSES, 8 TOKENS")
     void breachesOfAll() {
         newWord("in");
@@ -446,6 +468,75 @@ public final class FindingEdgesTest extends Sentences {
         }
         law(0, 4, LAST_DAY, "s");
         due(count(10), 1);
+    }
+
+    @Promise(of = 26, says = "some s CLAUSE: the same one for both, whichever of all 320 it is")
+    void unlikeByTheSameClause() {
+        // for each two of 320 CLAUSES there is a round in which they hold for two VERSES apart
+        for (int bit = 0; bit < 9; bit++) {
+            fresh();
+            newWords("in", "god");
+            company(255, 1);
+            scholar(0, true);
+            for (int v = 0; v < 2; v++) {
+                verse(0, 0);
+                tokens(v, 0, 4, 8);
+                slots(0, v, v, 0);
+                vote(0, v, true);
+                close(v);
+                vote(0, v, true);
+                close(v);
+            }
+            for (int i = 0; i < 20; i++) {
+                StringBuilder text = new StringBuilder();
+                for (int j = 0; j < 16; j++) {
+                    text.append(j > 0 ? ";" : "").append("s(v=").append((16 * i + j) >> bit & 1).append(')');
+                }
+                due(law(text.toString()), i);
+            }
+            due(count(9), 2);
+            due(count(10), 0);
+        }
+    }
+
+    @Promise(of = 26, says = "for both VERSES: not for those that stand beside them")
+    void unlikeBesideOthers() {
+        office();
+        law("s(v=0);s(v=2);s(v=1|v=3);s(v>55)");
+        for (int v = 0; v < 60; v++) {
+            verse(0, 0);
+        }
+        int[] own = {0, 1, 2, 3, 56, 59};
+        for (int i = 0; i < own.length; i++) {
+            tokens(own[i], 0, 4, 8);
+            fix(own[i], i == 2 || i == 5 ? 1 : 0, 0);
+        }
+        due(count(10), 1);
+        dueUnlike(0, 56, 0, 59, 0);
+        now(1);
+        fix(3, 2, 0);
+        due(count(10), 2);
+        dueUnlike(0, 1, 0, 3, 0);
+    }
+
+    @Promise(of = 26, says = "in FORCE today: what held on another DAY does not count, when it was asked then")
+    void unlikeOfToday() {
+        newWords("in", "god");
+        company(255, 1);
+        scholar(0, true);
+        law("s(d=1);s(v=0);s(v=1);v0.0;v1.0");
+        for (int v = 0; v < 2; v++) {
+            verse(0, 0);
+            tokens(v, 0, 4, 8);
+            fix(v, v, 0);
+        }
+        for (int i = 1; i < 20; i++) {
+            law(i % 3 == 0 ? "s(d=" + i + ")" : "s(d>99)");
+        }
+        for (int day = 0; day < 20; day++) {
+            now(day);
+            due(count(10), day == 1 || (day > 1 && day % 3 == 0) ? 1 : 0);
+        }
     }
 
     @Promise(of = 26, says = "RULES for a COMPANY are in FORCE for both VERSES, if it is THE COMPANY of both")
@@ -779,6 +870,22 @@ public final class FindingEdgesTest extends Sentences {
         due(cost(1), 0);
     }
 
+    @Promise(of = 29, says = "8: it is ADDED: it turns none of eight TOKENS, either")
+    void costOfAddedOnes() {
+        office();
+        verse(0, 0);
+        tokens(0, 0, 4, 4, 4, 4, 4, 4, 4, 4);
+        fix(0, 0, 8, 0, 7, 0, 0, 0, 8);
+        option(1, 0);
+        option(1, 1);
+        due(cost(0), 0);
+        due(cost(1), 2);
+        law("w1.0=0");
+        due(breaches(0), 6);
+        dueBreach(0, 0, 1, 0, 1);
+        dueBreach(0, 5, 1, 0, 6);
+    }
+
     @Promise(of = 29, says = "COST: as much as there can be")
     void costOfMany() {
         newWords("in", "god");
@@ -841,6 +948,59 @@ public final class FindingEdgesTest extends Sentences {
             boolean barred = day == 2 || day == 3 || day == 5;
             due(cost(0), barred ? -2 : 0);
             due(one(), barred ? NONE : 0);
+        }
+    }
+
+    @Promise(of = 29, says = "a w CLAUSE of the first RULES, and of the last; the first CLAUSE, and the last")
+    void costByFirstAndLast() {
+        newWords("in", "god");
+        company(255, 1);
+        scholar(0, true);
+        law("w1.0=0(d=0);v0.0;v1.0;" + times(12, "o0;") + "w1.0=0(d=1)");
+        verse(0, 0);
+        tokens(0, 0, 4);
+        fix(0, 0, 0);
+        for (int i = 1; i < 19; i++) {
+            law("w2.0=0");
+        }
+        law("w1.0=0(d=2);" + times(14, "o0;") + "w1.0=0(d=3)");
+        option(1, 0);
+        option(1, 1);
+        due(count(5), 20);
+        for (int day = 0; day < 5; day++) {
+            now(day);
+            due(cost(0), 0);
+            due(cost(1), day < 4 ? -2 : 1);
+        }
+    }
+
+    @Promise(of = 29, says = "COST: of each of six SIGNS with four OPTIONS by itself")
+    void costOfSixSigns() {
+        newWords("a", "b", "c", "d", "e");
+        company(255, 1);
+        scholar(0, true);
+        law("v0.0;v1.0");
+        verse(0, 0);
+        tokens(0, 0, 20, 16, 12, 8, 4, 0);
+        for (int sign = 0; sign < 6; sign++) {
+            for (int w = 0; w < 4; w++) {
+                option(sign, w);
+            }
+        }
+        // the SLOTS of SIGN 5 have e, of 4 d, of 3 c, of 2 b, of 1 a, of 0 a and e
+        fix(0, 4, 0, 3, 1, 2, 2, 1, 3, 0, 4, 0, 5, 4, 5);
+        int[] least = {0, 0, 1, 2, 3, 0};
+        int best = 0;
+        for (int sign = 5; sign >= 0; sign--) {
+            best = best * 4 + least[sign];
+        }
+        due(cost(best), 2);
+        due(one(), best);
+        for (int sign = 0; sign < 6; sign++) {
+            for (int w = 0; w < 4; w++) {
+                int choice = best + ((w - least[sign]) << 2 * sign);
+                due(cost(choice), w == least[sign] || sign == 5 ? 2 : 3);
+            }
         }
     }
 

@@ -346,6 +346,32 @@ public final class RenderingEdgesTest extends Sentences {
         due(look(1, 8), 0);
     }
 
+    @Promise(of = 18, says = "the latest counts: of each of 24 SCHOLARS by itself")
+    void voteOfEachOne() {
+        staff(24, 24);
+        law("v0.0");
+        propose(0);
+        for (int s = 0; s < 24; s++) {
+            say(0, true, s);
+        }
+        for (int s = 0; s < 24; s += 5) {
+            say(0, false, s);
+        }
+        due(close(0), PASSED);
+        due(look(0, 7), 19);
+        for (int s = 23; s > 0; s -= 2) {
+            say(0, false, s);
+        }
+        for (int s = 23; s >= 0; s--) {
+            say(0, true, s);
+        }
+        for (int s = 1; s < 24; s += 3) {
+            say(0, false, s);
+        }
+        due(close(0), FIXED);
+        due(look(0, 8), 16);
+    }
+
     @Promise(of = 18, says = "a vote of stage 0 is none of stage 1")
     void voteOfOneStageAlone() {
         staff(1, 1);
@@ -916,6 +942,41 @@ public final class RenderingEdgesTest extends Sentences {
         due(voids(0), 1);
     }
 
+    @Promise(of = 20, says = "all of 24 SCHOLARS, one after the other: as many as are left have to be enough")
+    void voidsOfTwentyFour() {
+        staff(24, 0);
+        law("v0.100");
+        propose(0);
+        for (int s = 0; s < 24; s++) {
+            say(0, true, s);
+        }
+        due(close(0), PASSED);
+        due(look(0, 7), 24);
+        for (int s = 23; s > 0; s--) {
+            due(voids(s), 0);
+            dueOf(0, PASSED, s, NONE, NONE);
+        }
+        due(voids(0), 1);
+        dueOf(0, PROPOSED, NONE, NONE, NONE);
+        due(close(0), NONE);
+    }
+
+    @Promise(of = 20, says = "how many RENDERINGS went back: a hundred of them")
+    void voidsOfAHundred() {
+        staff(1, 0);
+        for (int r = 0; r < 100; r++) {
+            feed(0, 0, 0, 0, 0);
+            render(0, 0, 1);
+            vote(0, r, true);
+            close(r);
+        }
+        due(count(21), 100);
+        due(voids(0), 100);
+        due(count(21), 0);
+        due(count(20), 100);
+        dueOf(99, PROPOSED, NONE, NONE, NONE);
+    }
+
     @Promise(of = 20, says = "a VERSE may be without anything FIXED then; what was REPLACED stays so")
     void voidsLeavesNothingFixed() {
         staff(2, 2);
@@ -1056,6 +1117,26 @@ public final class RenderingEdgesTest extends Sentences {
             due(fixedOn(0, day), want[day]);
             due(fixedOn(1, day), day < 3 ? NONE : 2);
         }
+    }
+
+    @Promise(of = 22, says = "the RENDERING that was FIXED of a VERSE: another one on each of 90 DAYS")
+    void fixedOnManyDays() {
+        staff(1, 1);
+        law("v0.0;v1.0");
+        for (int r = 0; r < 90; r++) {
+            now(40 * r);
+            feed(0, 0, 0, 0, 0);
+            render(0, 0, 1);
+            close(r);
+            close(r);
+        }
+        for (int r = 1; r < 90; r += 11) {
+            due(fixedOn(0, 40 * r - 1), r - 1);
+            due(fixedOn(0, 40 * r), r);
+            due(fixedOn(0, 40 * r + 39), 40 * r + 39 > 40 * 89 ? NONE : r);
+        }
+        due(fixed(0), 89);
+        due(count(24), 89);
     }
 
     @Promise(of = 22, says = "what became VOID since was FIXED till then")

@@ -164,6 +164,44 @@ public final class RulesEdgesTest extends Sentences {
         due(asks(0, 0, 0), 7);
     }
 
+    @Promise(of = 12, says = "a FAULT: no CLAUSE of such a text is in FORCE, of no kind, whatever RULES come next")
+    void rulesWithAFaultLeaveNoClause() {
+        newWords("in", "god");
+        company(255, 1);
+        scholar(0, true);
+        for (int v = 0; v < 2; v++) {
+            verse(0, 0);
+            tokens(v, 0, 4, 8);
+            tokens(v, 2, 4, 8);
+        }
+        due(law("v0.0;v1.0"), 0);
+        for (int v = 0; v < 2; v++) {
+            slots(0, v, v, 0);
+            close(v);
+            close(v);
+        }
+        option(1, 0);
+        String wrong = ";w1.0=1;w1.0=0;s;v0.9;v1.9;o9;k210;w1.0=1;s;q";
+        String[] next = {"o0", "o0;o0", "o0;o0;o0", "o0;o0;o0;o0", "o0;o0;o0;o0;o0", "o0;o0;o0;o0;o0;o0", "o0;o0;o0;o0;o0;o0;o0"};
+        for (int i = 0; i < next.length; i++) {
+            due(law("s" + wrong), -1000 - wrong.length());
+            dueNothingInForce();
+            due(law(next[i]), i + 1);
+            dueNothingInForce();
+        }
+    }
+
+    private void dueNothingInForce() {
+        due(asks(0, 0, 0), 0);
+        due(asks(0, 0, 1), 0);
+        due(asks(0, 0, 2), 0);
+        due(asks(0, 0, 3), 0);
+        due(breaches(0), 0);
+        due(quarrel(0, 0, 0), NONE);
+        due(count(10), 0);
+        due(cost(0), 1);
+    }
+
     @Promise(of = 12, says = "CLAUSES, 16 at most")
     void rulesOfSixteenClauses() {
         verse(0, 0);
@@ -685,6 +723,25 @@ public final class RulesEdgesTest extends Sentences {
         due(ask(told(a) + sign + told(b) + "=" + told(want)), 1);
     }
 
+    @Promise(of = 13, says = "six of ( [ ! that are open in one another")
+    void reckoningOfSixOpen() {
+        verse(0, 0);
+        String[] yes = {"(((((v=0)))))", "!!!!!v=1", "[[[[[v]]]]]=0", "0=[[[[[v]]]]]", "!(!([v]=0))", "!(!(!v=1))", "((((!v=1))))",
+            "v=1|(((((v=1|v=0)))))", "(((((v=0)))))&!!!!!v=1&[[[[[v]+1]*2]+3]*4]=20", "!((((v=1&v=0))))", "!!!![v]=0",
+            "!!!!(v=0)|v=1", "[[[[[7-v]-1]-1]-1]-1]=3"};
+        for (String text : yes) {
+            due(ask(text), 1);
+        }
+        fresh();
+        verse(0, 0);
+        String[] no = {"(((((v=1)))))", "!!!!!v=0", "[[[[[v]]]]]=1", "!(!([v]=1))", "!(!(!v=0))", "((((!v=0))))", "!((((v=0|v=1))))"};
+        for (String text : no) {
+            due(ask(text), 0);
+        }
+        due(ask("(((((1/v=1)))))"), 2);
+        due(ask("[[[[[1/v]]]]]=1"), 2);
+    }
+
     @Promise(of = 13, says = "All is reckoned with 32 bits, as the machine does")
     void thirtyTwoBitsOfAll() {
         int[] numbers = {LEAST, LEAST + 1, -99999, -65536, -46341, -3, -1, 0, 1, 2, 7, 32768, 46341, 65535, 99999, MOST - 1, MOST};
@@ -923,6 +980,25 @@ public final class RulesEdgesTest extends Sentences {
         law(NONE, 1, 1, "v0.11");
         due(asks(0, 0, 0), 8);
         due(asks(0, 1, 0), 11);
+    }
+
+    @Promise(of = 14, says = "RULES whose DAYS have it: the 16th CLAUSE of others that stand beside them does not count")
+    void asksNotOfTheRulesBeside() {
+        String[] last = {"v0.9", "v1.9", "o9", "k210"};
+        for (String clause : last) {
+            fresh();
+            verse(0, 0);
+            tokens(0, 0, 4);
+            tokens(0, 2, 4);
+            String text = times(15, "s(v=9);") + clause;
+            law(NONE, 5, 5, text);
+            law("s(v=9)");
+            law(NONE, 5, 5, text);
+            due(asks(0, 0, 0), 50);
+            due(asks(0, 0, 1), 50);
+            due(asks(0, 0, 2), 0);
+            due(asks(0, 0, 3), 0);
+        }
     }
 
     @Promise(of = 14, says = "N hundredths (0 to 100); N DAYS")
