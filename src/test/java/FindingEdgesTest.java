@@ -285,6 +285,21 @@ public final class FindingEdgesTest extends Sentences {
         dueQuarrel(0, 0, 1, 0, 0, 0, 1);
     }
 
+    @Promise(of = 25, says = "a TOKEN of its SOURCE: not of that on which what is FIXED rests")
+    void quarrelsOfTheSourceBesideWhatIsFixed() {
+        office();
+        verse(0, 0);
+        tokens(0, 0, 4);
+        law("w1.0=1;w1.0=2;w2.0=1;w2.0=2");
+        due(fixed(0), NONE);
+        fix(0, 1, 0);
+        due(fixed(0), 0);
+        dueQuarrel(0, 0, 0, 1, 0, 1, 1);
+        tokens(0, 0, 12, 8);
+        dueQuarrel(0, 0, 1, 1, 2, 1, 3);
+        dueQuarrel(0, 1, NONE, NONE, NONE, NONE, NONE);
+    }
+
     @Promise(of = 25, says = "as many as there can be")
     void quarrelsOfAll() {
         verse(0, 0);
@@ -884,6 +899,29 @@ public final class FindingEdgesTest extends Sentences {
         due(breaches(0), 6);
         dueBreach(0, 0, 1, 0, 1);
         dueBreach(0, 5, 1, 0, 6);
+    }
+
+    @Promise(of = 29, says = "of all FIXED RENDERINGS: on whichever COPY they rest, and whatever that has by now")
+    void costOnEachCopy() {
+        office();
+        option(1, 0);
+        option(1, 1);
+        for (int copy = 0; copy < 3; copy++) {
+            verse(0, 0);
+            tokens(copy, copy, 4, 8);
+            fix(copy, 0, 0, 0, 1);
+            due(look(copy, 4), copy);
+            due(cost(0), 0);
+            due(cost(1), copy + 1);
+        }
+        tokens(2, 0, 8, 8);
+        tokens(1, 1, 8, 4);
+        tokens(0, 0, 12);
+        due(cost(0), 0);
+        due(cost(1), 3);
+        law("w1.0=1");
+        due(cost(0), -2);
+        due(cost(1), 3);
     }
 
     @Promise(of = 29, says = "COST: as much as there can be")

@@ -93,6 +93,25 @@ public final class ReaderEdgesTest extends Sentences {
         }
     }
 
+    @Promise(of = 33, says = "those who told of it: a READER who tells again is one of them, and once")
+    void missedByEachReaderOnce() {
+        verse(0, 0);
+        for (int times = 1; times <= 4; times++) {
+            reads(0, 0, 5, false);
+            reads(1, 0, 5, false);
+            due(missed(0), times == 1 ? 32 : 0);
+            reads(2, 0, 5, true);
+            reads(3, 0, 5, true);
+            due(missed(0), 0);
+        }
+        for (int times = 1; times <= 3; times++) {
+            reads(4, 0, 5, false);
+            due(missed(0), 32);
+        }
+        reads(0, 0, 5, true);
+        due(missed(0), 0);
+    }
+
     @Promise(of = 33, says = "as bits, of each TOKEN and VERSE by itself")
     void missedOfEachToken() {
         for (int v = 0; v < 60; v++) {

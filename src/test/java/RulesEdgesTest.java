@@ -862,6 +862,16 @@ public final class RulesEdgesTest extends Sentences {
         }
     }
 
+    @Promise(of = 13, says = "what is divided by 0 is REFUSED, whatever stands behind it and is not asked any more")
+    void refusedOnceAndForAll() {
+        verse(0, 0);
+        String[] texts = {"1/v=1&1/v=1", "1/v=0|1/v=0", "1%v=1&1/v=1|v=1&1%v=0", "!(1/v=0|1/v=0)", "(1/v=1&1/v=1)|v=0",
+            "1/v+1/v=9&1/v=0", "v=0&1/v=1&1/v=1", "v=1|1/v=0|1/v=0"};
+        for (String text : texts) {
+            due(ask(text), 2);
+        }
+    }
+
     @Promise(of = 13, says = "both sides of a comparison are asked")
     void bothSidesAreAsked() {
         verse(0, 0);
